@@ -123,11 +123,12 @@ public final class CoreShed {
     // ---- logs
 
     public int layer(int h, int log, int to, int code) {
+        Hole hole = holeNamed(h);
         Log rows = logNamed(h, log);
-        if (rows == null) {
+        if (hole == null || rows == null) {
             return UNKNOWN;
         }
-        if (!isWithin(to, rows.bottom() + 1, holes[h].bottom) || !isCode(code)) {
+        if (!isWithin(to, rows.bottom() + 1, hole.bottom) || !isCode(code)) {
             return OUTSIDE;
         }
         if (rows.size >= MOST_LAYERS) {
@@ -240,14 +241,16 @@ public final class CoreShed {
     }
 
     public int twice(int b, int place) {
+        Batch batch = batchNamed(b);
         Place doubled = placeNamed(b, place);
-        if (doubled == null) {
+        if (batch == null || doubled == null) {
             return UNKNOWN;
         }
-        if (doubled.sort != SORT_SAMPLE) {
+        Sample sample = doubled.sort == SORT_SAMPLE ? sampleNamed(doubled.about) : null;
+        if (sample == null) {
             return OUTSIDE;
         }
-        return addPlaceWithQuarter(batches[b], SORT_DOUBLE, place, samples[doubled.about]);
+        return addPlaceWithQuarter(batch, SORT_DOUBLE, place, sample);
     }
 
     public int law(int which, int v) {

@@ -42,6 +42,8 @@ public final class PromiseTest {
         count();
         digest();
         refusalsChangeNothing();
+        fullLogs();
+        fullShed();
         CHECK.finish();
     }
 
@@ -591,6 +593,9 @@ public final class PromiseTest {
         dueDouble(100, -11, 10, 1);
         dueDouble(100, -11, 9, 1);
         dueDouble(100, -11, 8, 0);
+        dueDouble(100, -11, -11, 1);
+        dueDouble(100, -11, -9, 0);
+        dueDouble(100, 10, -11, 1);
         dueDouble(333, 3, 2, 0);
         dueDouble(334, 3, 2, 1);
         dueDouble(1, 100000, 99900, 1);
@@ -781,6 +786,7 @@ public final class PromiseTest {
         due("28 units with grades", x.composite(0, 0, 100, 100000, 2), 40);
         due("28 in part", x.composite(0, 15, 25, 100000, 1), 500 + 200);
         due("28 units in part", x.composite(0, 15, 25, 1, 2), 10);
+        due("28 one unit", x.composite(0, 19, 20, 1000, 0), 100);
         due("28 top cuts", x.composite(0, 0, 100, 60, 1), 600 + 1200);
         due("28 top 1", x.composite(0, 0, 100, 1, 1), 40);
         due("28 other hole", x.composite(1, 0, 100, 100, 0), 70);
@@ -850,6 +856,9 @@ public final class PromiseTest {
         due("30 unknown layer highest", x.matched(0, 1, HIGHEST), UNKNOWN);
         x.code(2, 1);
         dueMatched("30 by the table", x, 0, 1, 0, NONE, 1, 2);
+        x.code(2, 2);
+        x.code(3, 4);
+        dueMatched("30 by the table on both sides", x, 0, 1, 0, 1, NONE, 2);
     }
 
     private static void matchedByOrder() {
@@ -981,5 +990,60 @@ public final class PromiseTest {
                 due("refusals change nothing", x.digest(), before);
             }
         }
+    }
+
+    /** Each row is full: a look one behind its last would leave the array. */
+    private static void fullLogs() {
+        CoreShed x = withHoles(100, 100, 100);
+        for (int k = 1; k <= 20; k++) {
+            x.layer(0, 0, k, 1);
+            x.layer(0, 1, k * 2, k <= 10 ? 1 : 2);
+            x.layer(1, 0, k, 2);
+        }
+        due("12 full logs", x.agree(0), 20);
+        due("11 behind a full log", x.rock(0, 0, 20), NONE);
+        due("11 the last of a full log", x.rock(0, 1, 39), 2);
+        due("29 full logs, none alike", x.cost(0, 1), 40);
+        due("30 full logs, none alike", x.matched(0, 1, 19), NONE);
+        due("30 behind a full log", x.matched(0, 1, 20), UNKNOWN);
+        due("29 a full log and none", x.cost(2, 0), 20);
+        due("30 a full log and none", x.matched(0, 2, 19), NONE);
+    }
+
+    private static void fullShed() {
+        CoreShed x = withHoles(20, 20, 20, 20);
+        for (int s = 0; s < 30; s++) {
+            x.sample(s / 10, s % 10, s % 10 + 1);
+        }
+        for (int b = 0; b < 6; b++) {
+            x.batch();
+            for (int p = 0; p < 16; p++) {
+                x.put(b, (b * 16 + p) % 30);
+            }
+        }
+        for (int k = 0; k < 20; k++) {
+            x.mark(3, 19 - k);
+        }
+        due("end(4)", x.end(4), UNKNOWN);
+        due("wrong of full marks", x.wrong(3), 19);
+        due("isWrong(3, 20)", x.isWrong(3, 20), UNKNOWN);
+        due("left(30)", x.left(30), UNKNOWN);
+        due("grade(30)", x.grade(30, 0), UNKNOWN);
+        due("put(6, 0)", x.put(6, 0), UNKNOWN);
+        due("put(0, 30)", x.put(0, 30), UNKNOWN);
+        due("sound(6)", x.sound(6), UNKNOWN);
+        due("about(0, 16, 0)", x.about(0, 16, 0), UNKNOWN);
+        due("result(5, 16, 0)", x.result(5, 16, 0), UNKNOWN);
+        due("twice(5, 16)", x.twice(5, 16), UNKNOWN);
+        due("exchange(5, 15)", x.exchange(5, 15), UNKNOWN);
+        due("quarters of a full shed", x.count(3), 96);
+        for (int b = 0; b < 6; b++) {
+            for (int p = 0; p < 16; p++) {
+                x.result(b, p, 10);
+            }
+        }
+        due("sound batches of a full shed", x.count(4), 6);
+        due("composite of a full shed", x.composite(2, 0, 20, 8, 1), 80);
+        due("exchange(5, 14)", x.exchange(5, 14), 1);
     }
 }
